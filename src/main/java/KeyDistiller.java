@@ -232,7 +232,7 @@ public final class KeyDistiller {
         if (!isStation(station) || i < 0 || i >= keyLength) {
             throw new IndexOutOfBoundsException("no such station or bit");
         }
-        // The strings no longer change once the dialogue is done, so a key's bit can be worked out when it is asked for.
+        // The strings stay as they are once the dialogue is done, so a key's bit can wait until it is asked for.
         int[] string = stationOf(station).string;
         int sum = 0;
         for (int at = 0; at < length; at++) {

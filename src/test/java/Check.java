@@ -32,6 +32,10 @@ final class Check {
         due(what, outcome(call), "throws." + want.getSimpleName());
     }
 
+    void holds(String what, boolean isSo) {
+        due(what, isSo ? "so" : "not so", "so");
+    }
+
     boolean isWrong() {
         return wrong != 0;
     }

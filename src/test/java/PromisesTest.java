@@ -33,6 +33,7 @@ public final class PromisesTest {
         disclosedAndAnswered();
         questionsOfACascade();
         shortLastBlockFirst();
+        halvesRoundedUp();
         bit();
         item();
         tag();
@@ -224,6 +225,12 @@ public final class PromisesTest {
         KeyDistiller y = sifted(8, 0b10110010, 0b00000000);
         CHECK.due("a seed below 0", 3, () -> y.sample(-1, 4));
         stringDue("behind a seed below 0", y, 0, "0100");
+        // A shuffle of 6 with seed 12 begins with 4 and 1.
+        KeyDistiller z = sifted(8, 0b11001000, 0b10001000);
+        CHECK.due("a first sample", 0, () -> z.sample(5, 2));
+        CHECK.due("a second one is of what is left", 1, () -> z.sample(12, 2));
+        stringDue("behind two samples, 0", z, 0, "0101");
+        stringDue("behind two samples, 1", z, 1, "0101");
     }
 
     private static void sampleWrong() {
@@ -372,6 +379,17 @@ public final class PromisesTest {
         talk(x);
         CHECK.due("done all the same", 1, () -> x.done() ? 1 : 0);
         CHECK.due("with as many questions", 10, x::disclosed);
+        KeyDistiller y = started(16, 0xFFFE, 0xFFFE, 16, 3);
+        y.letter(0, 2);
+        y.letter(0, 0);
+        y.letter(1, 2);
+        letterDue("a doubled answer has its parity", y, 2, "1 1 1 -1 -1");
+        y.letter(1, 0);
+        y.letter(2, 0);
+        CHECK.due("question 2 is answered", 2, y::disclosed);
+        y.letter(0, 0);
+        CHECK.due("question 1 comes late", 2, y::disclosed);
+        CHECK.due("answered 1 stays", 65536 + 16, () -> y.answered(1));
     }
 
     private static void told() {
@@ -500,6 +518,14 @@ public final class PromisesTest {
         talk(x);
         questionsDue("a short last block", x, new int[][] {{0, 0, 4}, {0, 4, 8}, {0, 8, 12}, {0, 12, 13}, {0, 0, 2},
             {0, 0, 1}, {1, 0, 8}, {1, 8, 13}, {2, 0, 13}, {3, 0, 13}});
+    }
+
+    /** The order of pass 0 is 3 2 0 1 4: of 5 places the first half has 3. */
+    private static void halvesRoundedUp() {
+        questionsDue("in the first half", talked(5, 0b11001, 0b11000, 5, 1), new int[][] {{0, 0, 5}, {0, 0, 3},
+            {0, 0, 2}, {1, 0, 5}, {2, 0, 5}, {3, 0, 5}});
+        questionsDue("in the rest", talked(5, 0b11001, 0b01001, 5, 1), new int[][] {{0, 0, 5}, {0, 0, 3}, {0, 3, 4},
+            {1, 0, 5}, {2, 0, 5}, {3, 0, 5}});
     }
 
     private static void bit() {
