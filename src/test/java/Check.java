@@ -4,6 +4,12 @@ final class Check {
         long answer();
     }
 
+    /** A call with one argument of its own, on an object made for it. */
+    interface Try {
+        long with(int value);
+    }
+
+    private String sentence = "";
     private int looked = 0;
     private int wrong = 0;
 
@@ -12,15 +18,24 @@ final class Check {
         try {
             return Long.toString(call.answer());
         } catch (RuntimeException e) {
-            return "throws." + e.getClass().getSimpleName();
+            return nameOf(e.getClass());
         }
+    }
+
+    private static String nameOf(Class<?> thrown) {
+        return "throws." + thrown.getSimpleName();
+    }
+
+    /** The document's sentence that the checks behind this are about: it is printed with each that is wrong. */
+    void about(String quoted) {
+        sentence = "\"" + quoted + "\" ";
     }
 
     void due(String what, String got, String want) {
         looked++;
         if (!got.equals(want)) {
             wrong++;
-            System.out.println(what + ": " + got + ", due is " + want);
+            System.out.println(sentence + what + ": " + got + ", due is " + want);
         }
     }
 
@@ -29,11 +44,22 @@ final class Check {
     }
 
     void throwsDue(String what, Class<? extends RuntimeException> want, Call call) {
-        due(what, outcome(call), "throws." + want.getSimpleName());
+        due(what, outcome(call), nameOf(want));
     }
 
     void holds(String what, boolean isSo) {
         due(what, isSo ? "so" : "not so", "so");
+    }
+
+    /** The last values that are allowed on both sides, and the first ones that are not, and the farthest ones. */
+    void bounds(String what, int least, int greatest, Class<? extends RuntimeException> thrown, Try call) {
+        for (int inside : new int[] {least, greatest}) {
+            String got = outcome(() -> call.with(inside));
+            due(what + " " + inside + " is allowed", got.startsWith("throws") ? got : "allowed", "allowed");
+        }
+        for (int outside : new int[] {least - 1, greatest + 1, Integer.MIN_VALUE, Integer.MAX_VALUE}) {
+            throwsDue(what + " " + outside, thrown, () -> call.with(outside));
+        }
     }
 
     boolean isWrong() {

@@ -14,6 +14,7 @@ public final class ModelTest {
     private final KeyDistiller x = new KeyDistiller();
     private final Model model = new Model();
     private int calls = 0;
+    private boolean isRowFilled = false;
 
     private ModelTest(int run) {
         this.run = run;
@@ -23,15 +24,21 @@ public final class ModelTest {
     public static void main(String[] args) {
         int ended = 0;
         int shortened = 0;
+        int filled = 0;
+        int used = 0;
         for (int run = 0; run < RUNS && !CHECK.isWrong(); run++) {
             ModelTest test = new ModelTest(run);
             test.play();
             ended += test.model.done() ? 1 : 0;
             shortened += Check.outcome(() -> test.model.key(0, 0)).startsWith("throws") ? 0 : 1;
+            filled += test.isRowFilled ? 1 : 0;
+            used += test.calls == MOST_CALLS ? 1 : 0;
         }
-        // Runs that never come to an end would leave the later promises without a test.
+        // Runs that never come to an end, or never to a limit, would leave that without a test.
         CHECK.holds("many dialogues are done", ended > RUNS / 2);
         CHECK.holds("many keys are shortened", shortened > RUNS / 10);
+        CHECK.holds("many rows have 16 letters", filled > RUNS / 20);
+        CHECK.holds("many objects are used for 512 calls", used > RUNS / 20);
         CHECK.end();
     }
 
@@ -48,6 +55,8 @@ public final class ModelTest {
         while (calls < MOST_CALLS - 40 && !model.done()) {
             if (random.nextInt(6) == 0) {
                 looks(1);
+            } else if (trouble > 0 && random.nextInt(200) == 0) {
+                flood();
             } else {
                 mail(trouble);
             }
@@ -55,6 +64,19 @@ public final class ModelTest {
         for (int i = 0; i < 4; i++) {
             shortenSome();
             looks(6);
+        }
+        if (random.nextInt(8) == 0) {
+            useUp();
+        }
+    }
+
+    private void useUp() {
+        for (int i = 0; i < 10 * MOST_CALLS && calls < MOST_CALLS; i++) {
+            if (model.pass() != -1 && random.nextInt(3) == 0) {
+                mail(50);
+            } else {
+                looks(1);
+            }
         }
     }
 
@@ -125,8 +147,21 @@ public final class ModelTest {
             both("tick()", x::tick, model::tick);
             return;
         }
+        isRowFilled |= model.told(15, 0) != -1;
         int action = chance >= trouble ? 0 : chance < 1 ? odd() : random.nextInt(3);
         both("letter(" + k + ", " + action + ")", () -> x.letter(k, action), () -> model.letter(k, action));
+    }
+
+    /** So many letters that the row has no place for the last ones. */
+    private void flood() {
+        for (int i = 0; i < 18; i++) {
+            if (random.nextBoolean()) {
+                both("tick()", x::tick, model::tick);
+            } else {
+                int k = random.nextInt(17);
+                both("letter(" + k + ", 2)", () -> x.letter(k, 2), () -> model.letter(k, 2));
+            }
+        }
     }
 
     private void shortenSome() {

@@ -44,75 +44,24 @@ public final class PromisesTest {
         CHECK.end();
     }
 
-    /** Both stations have the same bases and station 1 saw all: values of up to 32 pulses. */
-    private static KeyDistiller sifted(int n, int values0, int values1) {
-        KeyDistiller x = new KeyDistiller();
-        x.record(0, 0, n, 0, values0, 0);
-        x.record(1, 0, n, 0, values1, -1);
-        x.sift();
-        return x;
-    }
-
-    private static KeyDistiller started(int n, int values0, int values1, int k, long seed) {
-        KeyDistiller x = sifted(n, values0, values1);
-        x.start(k, seed);
-        return x;
-    }
-
-    /** The first letter comes, again and again, until none is under way. */
-    private static void talk(KeyDistiller x) {
-        int left = 1;
-        for (int i = 0; i < 400 && left != 0; i++) {
-            left = x.letter(0, 0);
-        }
-    }
-
-    private static KeyDistiller talked(int n, int values0, int values1, int k, long seed) {
-        KeyDistiller x = started(n, values0, values1, k, seed);
-        talk(x);
-        return x;
-    }
-
     private static void stringDue(String what, KeyDistiller x, int station, String bits) {
-        StringBuilder got = new StringBuilder();
-        for (int i = 0; i < x.length(); i++) {
-            got.append(x.bit(station, i));
-        }
-        CHECK.due(what, got.toString(), bits);
+        CHECK.due(what, Runs.string(x, station), bits);
     }
 
     private static void letterDue(String what, KeyDistiller x, int k, String letter) {
-        StringBuilder got = new StringBuilder();
-        for (int w = 0; w < 5; w++) {
-            got.append(w == 0 ? "" : " ").append(x.told(k, w));
-        }
-        CHECK.due(what, got.toString(), letter);
+        CHECK.due(what, Runs.letter(x, k), letter);
     }
 
     private static void orderDue(String what, KeyDistiller x, int pass, String items) {
-        StringBuilder got = new StringBuilder();
-        for (int i = 0; i < x.length(); i++) {
-            got.append(i == 0 ? "" : " ").append(x.item(pass, i));
-        }
-        CHECK.due(what, got.toString(), items);
+        CHECK.due(what, Runs.order(x, pass), items);
     }
 
-    private static void questionsDue(String what, KeyDistiller x, int[][] questions) {
-        CHECK.due(what + " disclosed", questions.length, x::disclosed);
-        for (int i = 0; i < questions.length; i++) {
-            int at = i;
-            int[] q = questions[i];
-            CHECK.due(what + " answered " + i, 65536 * q[0] + 256 * q[1] + q[2], () -> x.answered(at));
-        }
-        CHECK.due(what + " answered behind", -1, () -> x.answered(questions.length));
+    private static void questionsDue(String what, KeyDistiller x, String questions) {
+        CHECK.due(what, Runs.questions(x), questions);
     }
 
     private static void keyDue(String what, KeyDistiller x, int station, String bits) {
-        StringBuilder got = new StringBuilder();
-        for (int i = 0; i < bits.length(); i++) {
-            got.append(x.key(station, i));
-        }
-        CHECK.due(what, got.toString(), bits);
+        CHECK.due(what, Runs.key(x, station, bits.length()), bits);
         CHECK.throwsDue(what + " behind", INDEX, () -> x.key(station, bits.length()));
     }
 
@@ -211,7 +160,7 @@ public final class PromisesTest {
 
     private static void sample() {
         // A shuffle of 8 with seed 5 is 5 1 2 3 7 6 4 0.
-        KeyDistiller x = sifted(8, 0b11010010, 0b11110000);
+        KeyDistiller x = Runs.sifted(8, 0b11010010, 0b11110000);
         CHECK.due("sample of none", 0, () -> x.sample(5, 0));
         stringDue("a sample of none", x, 0, "01001011");
         CHECK.due("sample", 2, () -> x.sample(5, 2));
@@ -222,11 +171,11 @@ public final class PromisesTest {
         CHECK.due("length 0", 0, x::length);
         CHECK.due("sample of none of nothing", 0, () -> x.sample(9, 0));
         // A shuffle of 8 with seed -1 is 6 5 4 7 2 1 3 0.
-        KeyDistiller y = sifted(8, 0b10110010, 0b00000000);
+        KeyDistiller y = Runs.sifted(8, 0b10110010, 0b00000000);
         CHECK.due("a seed below 0", 3, () -> y.sample(-1, 4));
         stringDue("behind a seed below 0", y, 0, "0100");
         // A shuffle of 6 with seed 12 begins with 4 and 1.
-        KeyDistiller z = sifted(8, 0b11001000, 0b10001000);
+        KeyDistiller z = Runs.sifted(8, 0b11001000, 0b10001000);
         CHECK.due("a first sample", 0, () -> z.sample(5, 2));
         CHECK.due("a second one is of what is left", 1, () -> z.sample(12, 2));
         stringDue("behind two samples, 0", z, 0, "0101");
@@ -248,17 +197,17 @@ public final class PromisesTest {
         x.start(4, 1);
         CHECK.throwsDue("sample behind the start", STATE, () -> x.sample(1, 1));
         CHECK.throwsDue("sample behind the start, wrong n", STATE, () -> x.sample(1, 9));
-        talk(x);
+        Runs.talk(x);
         CHECK.throwsDue("sample when done", STATE, () -> x.sample(1, 0));
     }
 
     /** Seeds whose first draw of 0 .. 4 is 2^31 - 1, the greatest multiple of 5 itself, and one less. */
     private static void drawnAgain() {
-        orderDue("drawn again", started(5, 0, 0, 4, -7847782917531415342L), 0, "1 4 3 2 0");
-        orderDue("drawn again at the multiple", started(5, 0, 0, 4, -646614882277610270L), 0, "2 3 4 1 0");
-        orderDue("not drawn again below it", started(5, 0, 0, 4, -7941409756980400926L), 0, "3 1 0 2 4");
-        orderDue("never drawn again for 4", started(4, 0, 0, 4, -4503769206581580574L), 0, "0 1 2 3");
-        KeyDistiller x = sifted(3, 0b010, 0b000);
+        orderDue("drawn again", Runs.started(5, 0, 0, 4, -7847782917531415342L), 0, "1 4 3 2 0");
+        orderDue("drawn again at the multiple", Runs.started(5, 0, 0, 4, -646614882277610270L), 0, "2 3 4 1 0");
+        orderDue("not drawn again below it", Runs.started(5, 0, 0, 4, -7941409756980400926L), 0, "3 1 0 2 4");
+        orderDue("never drawn again for 4", Runs.started(4, 0, 0, 4, -4503769206581580574L), 0, "0 1 2 3");
+        KeyDistiller x = Runs.sifted(3, 0b010, 0b000);
         CHECK.due("drawn again in a sample", 1, () -> x.sample(-7847782917531415342L, 1));
     }
 
@@ -299,20 +248,20 @@ public final class PromisesTest {
         CHECK.throwsDue("start again", STATE, () -> x.start(4, 1));
         CHECK.throwsDue("start again, wrong k", STATE, () -> x.start(3, 1));
         letterDue("nothing changed", x, 0, "0 1 0 0 4");
-        KeyDistiller whole = sifted(13, 0, 0);
+        KeyDistiller whole = Runs.sifted(13, 0, 0);
         CHECK.due("start with the length", 1, () -> whole.start(13, Long.MAX_VALUE));
         letterDue("a block of all", whole, 0, "0 1 0 0 13");
-        KeyDistiller few = sifted(3, 0, 0);
+        KeyDistiller few = Runs.sifted(3, 0, 0);
         CHECK.throwsDue("start with too few", ARGUMENT, () -> few.start(4, 1));
         CHECK.throwsDue("start with too few, 3", ARGUMENT, () -> few.start(3, 1));
-        KeyDistiller short13 = sifted(16, 0, 0);
+        KeyDistiller short13 = Runs.sifted(16, 0, 0);
         short13.sample(1, 3);
         CHECK.throwsDue("the length behind a sample", ARGUMENT, () -> short13.start(14, 1));
         CHECK.due("start with all that is left", 1, () -> short13.start(13, 1));
     }
 
     private static void letterComes() {
-        KeyDistiller x = started(16, 0xB38F, 0xB3AF, 4, 3);
+        KeyDistiller x = Runs.started(16, 0xB38F, 0xB3AF, 4, 3);
         for (int action : new int[] {-1, 3, LEAST, GREATEST}) {
             CHECK.throwsDue("action " + action, ARGUMENT, () -> x.letter(0, action));
             CHECK.throwsDue("action first " + action, ARGUMENT, () -> x.letter(9, action));
@@ -328,13 +277,13 @@ public final class PromisesTest {
         letterDue("its answer", x, 0, "1 1 0 -1 -1");
         CHECK.due("an answer comes and the next is asked", 1, () -> x.letter(0, 0));
         letterDue("the next question", x, 0, "0 2 0 4 8");
-        KeyDistiller before = sifted(8, 0, 0);
+        KeyDistiller before = Runs.sifted(8, 0, 0);
         CHECK.throwsDue("letter before the start", INDEX, () -> before.letter(0, 0));
         CHECK.throwsDue("wrong letter before the start", ARGUMENT, () -> before.letter(0, 3));
     }
 
     private static void letterLostAndDoubled() {
-        KeyDistiller x = started(16, 0xB38F, 0xB3AF, 4, 3);
+        KeyDistiller x = Runs.started(16, 0xB38F, 0xB3AF, 4, 3);
         CHECK.due("lost", 0, () -> x.letter(0, 1));
         CHECK.throwsDue("lost again", INDEX, () -> x.letter(0, 1));
         x.tick();
@@ -360,7 +309,7 @@ public final class PromisesTest {
     }
 
     private static void letterLate() {
-        KeyDistiller x = started(16, 0xB38F, 0xB3AF, 4, 3);
+        KeyDistiller x = Runs.started(16, 0xB38F, 0xB3AF, 4, 3);
         x.letter(0, 2);
         x.letter(0, 0);
         x.letter(1, 2);
@@ -376,10 +325,10 @@ public final class PromisesTest {
         CHECK.due("its answer is lost", 0, () -> x.letter(0, 1));
         CHECK.due("but disclosed", 2, x::disclosed);
         x.tick();
-        talk(x);
+        Runs.talk(x);
         CHECK.due("done all the same", 1, () -> x.done() ? 1 : 0);
         CHECK.due("with as many questions", 10, x::disclosed);
-        KeyDistiller y = started(16, 0xFFFE, 0xFFFE, 16, 3);
+        KeyDistiller y = Runs.started(16, 0xFFFE, 0xFFFE, 16, 3);
         y.letter(0, 2);
         y.letter(0, 0);
         y.letter(1, 2);
@@ -393,7 +342,7 @@ public final class PromisesTest {
     }
 
     private static void told() {
-        KeyDistiller x = started(13, 0x1ACE, 0x1ACE, 5, 3);
+        KeyDistiller x = Runs.started(13, 0x1ACE, 0x1ACE, 5, 3);
         letterDue("a question", x, 0, "0 1 0 0 5");
         for (int what : new int[] {-1, 5, LEAST, GREATEST}) {
             CHECK.due("told what " + what, -1, () -> x.told(0, what));
@@ -412,12 +361,12 @@ public final class PromisesTest {
         x.letter(0, 0);
         x.letter(0, 0);
         letterDue("a question of pass 1", x, 0, "0 4 1 0 10");
-        talk(x);
+        Runs.talk(x);
         CHECK.due("told when none is under way", -1, () -> x.told(0, 0));
     }
 
     private static void tick() {
-        KeyDistiller x = sifted(16, 0xB38F, 0xB3AF);
+        KeyDistiller x = Runs.sifted(16, 0xB38F, 0xB3AF);
         CHECK.throwsDue("tick before the start", STATE, x::tick);
         x.start(4, 3);
         CHECK.due("tick", 2, x::tick);
@@ -433,9 +382,9 @@ public final class PromisesTest {
         }
         CHECK.due("a tick at 16 is lost", 16, x::tick);
         letterDue("the last of 16", x, 15, "0 2 0 4 8");
-        KeyDistiller done = talked(16, 0xB38F, 0xB3AF, 4, 3);
+        KeyDistiller done = Runs.talked(16, 0xB38F, 0xB3AF, 4, 3);
         CHECK.due("tick when all is known", 0, done::tick);
-        KeyDistiller late = started(16, 0, 0, 16, 3);
+        KeyDistiller late = Runs.started(16, 0, 0, 16, 3);
         for (int i = 0; i < 6; i++) {
             late.letter(0, 0);
         }
@@ -451,7 +400,7 @@ public final class PromisesTest {
     }
 
     private static void doneAndPass() {
-        KeyDistiller x = sifted(32, 0x5A3C96E1, 0x5A3C96E1);
+        KeyDistiller x = Runs.sifted(32, 0x5A3C96E1, 0x5A3C96E1);
         CHECK.due("pass before the start", -1, x::pass);
         CHECK.due("done before the start", 0, () -> x.done() ? 1 : 0);
         x.start(16, 9);
@@ -471,9 +420,9 @@ public final class PromisesTest {
     }
 
     private static void disclosedAndAnswered() {
-        KeyDistiller before = sifted(8, 0, 0);
+        KeyDistiller before = Runs.sifted(8, 0, 0);
         CHECK.due("disclosed before the start", 0, before::disclosed);
-        KeyDistiller x = started(16, 0xB38F, 0xB3AF, 4, 3);
+        KeyDistiller x = Runs.started(16, 0xB38F, 0xB3AF, 4, 3);
         CHECK.due("a question under way is not answered", 0, x::disclosed);
         CHECK.due("answered 0 before", -1, () -> x.answered(0));
         x.letter(0, 0);
@@ -484,20 +433,19 @@ public final class PromisesTest {
         for (int i : new int[] {-1, 512, LEAST, GREATEST}) {
             CHECK.due("answered " + i, -1, () -> x.answered(i));
         }
-        talk(x);
-        questionsDue("one difference", x, new int[][] {{0, 0, 4}, {0, 4, 8}, {0, 8, 12}, {0, 12, 16}, {0, 8, 10},
-            {0, 8, 9}, {1, 0, 8}, {1, 8, 16}, {2, 0, 16}, {3, 0, 16}});
+        Runs.talk(x);
+        questionsDue("one difference", x,
+            "0:0-4 0:4-8 0:8-12 0:12-16 0:8-10 0:8-9 1:0-8 1:8-16 2:0-16 3:0-16");
         stringDue("mended", x, 1, "1111000111001101");
     }
 
     /** Mending in a later pass makes blocks of an earlier one odd: those are smaller and are searched first. */
     private static void questionsOfACascade() {
         int values = 0x5A3C96E1;
-        KeyDistiller x = talked(32, values, values ^ (1 << 2 | 1 << 9 | 1 << 17 | 1 << 30), 4, 94);
-        questionsDue("a cascade", x, new int[][] {{0, 0, 4}, {0, 4, 8}, {0, 8, 12}, {0, 12, 16}, {0, 16, 20},
-            {0, 20, 24}, {0, 24, 28}, {0, 28, 32}, {1, 0, 8}, {1, 8, 16}, {1, 16, 24}, {1, 24, 32}, {1, 8, 12},
-            {1, 8, 10}, {1, 8, 9}, {0, 16, 18}, {0, 18, 19}, {2, 0, 16}, {2, 16, 32}, {2, 0, 8}, {2, 8, 12},
-            {2, 12, 14}, {2, 14, 15}, {0, 4, 6}, {0, 6, 7}, {3, 0, 32}});
+        KeyDistiller x = Runs.talked(32, values, values ^ (1 << 2 | 1 << 9 | 1 << 17 | 1 << 30), 4, 94);
+        questionsDue("a cascade", x,
+            "0:0-4 0:4-8 0:8-12 0:12-16 0:16-20 0:20-24 0:24-28 0:28-32 1:0-8 1:8-16 1:16-24 1:24-32 1:8-12 "
+            + "1:8-10 1:8-9 0:16-18 0:18-19 2:0-16 2:16-32 2:0-8 2:8-12 2:12-14 2:14-15 0:4-6 0:6-7 3:0-32");
         for (int i = 0; i < 32; i++) {
             int at = i;
             CHECK.due("cascade bit " + i, values >>> i & 1, () -> x.bit(1, at));
@@ -506,7 +454,7 @@ public final class PromisesTest {
 
     private static void shortLastBlockFirst() {
         // The order of pass 0 begins with 2 and ends with 10, which is a block of one place.
-        KeyDistiller x = started(13, 0x1ACE, 0x1ACE ^ (1 << 2 | 1 << 10), 4, 0);
+        KeyDistiller x = Runs.started(13, 0x1ACE, 0x1ACE ^ (1 << 2 | 1 << 10), 4, 0);
         for (int i = 0; i < 7; i++) {
             x.letter(0, 0);
         }
@@ -515,17 +463,17 @@ public final class PromisesTest {
         CHECK.due("mended without a question", 0, () -> x.bit(1, 10) ^ x.bit(0, 10));
         CHECK.due("the other one is not", 1, () -> x.bit(1, 2) ^ x.bit(0, 2));
         letterDue("it is searched then", x, 0, "0 5 0 0 2");
-        talk(x);
-        questionsDue("a short last block", x, new int[][] {{0, 0, 4}, {0, 4, 8}, {0, 8, 12}, {0, 12, 13}, {0, 0, 2},
-            {0, 0, 1}, {1, 0, 8}, {1, 8, 13}, {2, 0, 13}, {3, 0, 13}});
+        Runs.talk(x);
+        questionsDue("a short last block", x,
+            "0:0-4 0:4-8 0:8-12 0:12-13 0:0-2 0:0-1 1:0-8 1:8-13 2:0-13 3:0-13");
     }
 
     /** The order of pass 0 is 3 2 0 1 4: of 5 places the first half has 3. */
     private static void halvesRoundedUp() {
-        questionsDue("in the first half", talked(5, 0b11001, 0b11000, 5, 1), new int[][] {{0, 0, 5}, {0, 0, 3},
-            {0, 0, 2}, {1, 0, 5}, {2, 0, 5}, {3, 0, 5}});
-        questionsDue("in the rest", talked(5, 0b11001, 0b01001, 5, 1), new int[][] {{0, 0, 5}, {0, 0, 3}, {0, 3, 4},
-            {1, 0, 5}, {2, 0, 5}, {3, 0, 5}});
+        questionsDue("in the first half", Runs.talked(5, 0b11001, 0b11000, 5, 1),
+            "0:0-5 0:0-3 0:0-2 1:0-5 2:0-5 3:0-5");
+        questionsDue("in the rest", Runs.talked(5, 0b11001, 0b01001, 5, 1),
+            "0:0-5 0:0-3 0:3-4 1:0-5 2:0-5 3:0-5");
     }
 
     private static void bit() {
@@ -546,7 +494,7 @@ public final class PromisesTest {
         x.sample(5, 1);
         CHECK.throwsDue("a bit that was given up", INDEX, () -> x.bit(0, 7));
         x.start(4, 1);
-        talk(x);
+        Runs.talk(x);
         CHECK.due("the bit as it is now", 0, () -> x.bit(1, 0));
     }
 
@@ -568,8 +516,8 @@ public final class PromisesTest {
         for (int i : new int[] {-1, 16, LEAST, GREATEST}) {
             CHECK.throwsDue("item " + i, INDEX, () -> x.item(0, i));
         }
-        KeyDistiller wrapped = started(16, 0, 0, 4, Long.MAX_VALUE);
-        KeyDistiller least = started(16, 0, 0, 4, Long.MIN_VALUE);
+        KeyDistiller wrapped = Runs.started(16, 0, 0, 4, Long.MAX_VALUE);
+        KeyDistiller least = Runs.started(16, 0, 0, 4, Long.MIN_VALUE);
         for (int i = 0; i < 16; i++) {
             int at = i;
             CHECK.due("the seed wraps, item " + i, least.item(0, i), () -> wrapped.item(1, at));
@@ -592,39 +540,29 @@ public final class PromisesTest {
         KeyDistiller empty = new KeyDistiller();
         empty.sift();
         CHECK.due("tag of nothing", 0, () -> empty.tag(0, 7));
-        KeyDistiller single = sifted(1, 1, 0);
+        KeyDistiller single = Runs.sifted(1, 1, 0);
         CHECK.due("tag of a single bit with 1", 0, () -> single.tag(0, 1));
         CHECK.due("tag of a single bit with 2", 6, () -> single.tag(0, 2));
         CHECK.due("tag of a single 0", 2, () -> single.tag(1, 2));
-        CHECK.due("the product is taken modulo", 43, () -> sifted(2, 0, 0).tag(0, 32768));
-        CHECK.due("tag of 17 bits", 54, () -> sifted(17, 1 << 16, 0).tag(0, 3));
+        CHECK.due("the product is taken modulo", 43, () -> Runs.sifted(2, 0, 0).tag(0, 32768));
+        CHECK.due("tag of 17 bits", 54, () -> Runs.sifted(17, 1 << 16, 0).tag(0, 3));
         CHECK.due("tag of 19 bits", 23744, () -> x.tag(0, 65535));
-        CHECK.due("a product of 16 bits", 20096, () -> sifted(16, 52428, 0).tag(0, 40000));
-        KeyDistiller all = allPulses(new int[] {-1, -1, -1, -1});
+        CHECK.due("a product of 16 bits", 20096, () -> Runs.sifted(16, 52428, 0).tag(0, 40000));
+        KeyDistiller all = Runs.allPulses(new int[] {-1, -1, -1, -1});
         CHECK.due("tag of all pulses", 13547, () -> all.tag(1, 32768));
     }
 
-    private static KeyDistiller allPulses(int[] words) {
-        KeyDistiller x = new KeyDistiller();
-        for (int w = 0; w < 4; w++) {
-            x.record(0, 32 * w, 32, 0, words[w], 0);
-            x.record(1, 32 * w, 32, 0, words[w], -1);
-        }
-        x.sift();
-        return x;
-    }
-
     private static void shorten() {
-        KeyDistiller x = talked(32, 0x5A3C96E1, 0x5A3C96E1, 32, 9);
+        KeyDistiller x = Runs.talked(32, 0x5A3C96E1, 0x5A3C96E1, 32, 9);
         CHECK.due("disclosed", 4, x::disclosed);
         CHECK.due("shorten", 12, () -> x.shorten(1, 1, 0));
         CHECK.due("shorten with a margin", 7, () -> x.shorten(1, 65535, 5));
         CHECK.due("shorten to one bit", 1, () -> x.shorten(1, 1, 11));
         CHECK.throwsDue("no bits", UNSUPPORTED, () -> x.shorten(1, 1, 12));
         CHECK.throwsDue("less than no bits", UNSUPPORTED, () -> x.shorten(1, 1, 128));
-        KeyDistiller all = allPulses(new int[] {1, 2, 3, 4});
+        KeyDistiller all = Runs.allPulses(new int[] {1, 2, 3, 4});
         all.start(128, 5);
-        talk(all);
+        Runs.talk(all);
         CHECK.due("shorten all pulses", 108, () -> all.shorten(1, 1, 0));
     }
 
@@ -656,7 +594,7 @@ public final class PromisesTest {
 
     private static void key() {
         // Two differences stay, and with 32 the tags are alike, so each station has a key of its own.
-        KeyDistiller x = talked(32, 0x5A3C96E1, 0x5A3C96E1 ^ (1 | 1 << 21), 32, 9);
+        KeyDistiller x = Runs.talked(32, 0x5A3C96E1, 0x5A3C96E1 ^ (1 | 1 << 21), 32, 9);
         CHECK.throwsDue("key before it is shortened", INDEX, () -> x.key(0, 0));
         x.shorten(2024, 32, 0);
         keyDue("key 0", x, 0, "001000111000");
@@ -682,9 +620,9 @@ public final class PromisesTest {
     }
 
     private static void keyOfAllPulses() {
-        KeyDistiller x = allPulses(new int[] {-1515870811, 252645135, 858993459, 1431655765});
+        KeyDistiller x = Runs.allPulses(new int[] {-1515870811, 252645135, 858993459, 1431655765});
         x.start(128, 0);
-        talk(x);
+        Runs.talk(x);
         CHECK.due("tag", 12904, () -> x.tag(0, 4321));
         CHECK.due("shorten", 108, () -> x.shorten(123456789, 4321, 0));
         java.math.BigInteger want = new java.math.BigInteger("98a130f96781bbac435b3218e", 16);
