@@ -5,7 +5,7 @@ import java.util.function.Supplier;
 /**
  * "What throws changes nothing; the exceptions are tested in the order in which they are named": each refused call in
  * each state where it is refused, which exception comes, and that the object shows and goes on like one that was never
- * asked.
+ * asked. So does one that was only looked at.
  */
 public final class RefusedTest {
     private static final Class<IllegalArgumentException> ARGUMENT = IllegalArgumentException.class;
@@ -331,6 +331,10 @@ public final class RefusedTest {
                 () -> refusal.ask().of(all));
         }
         CHECK.due(state + ": behind all", shows(all), shown);
+        // Nothing but the changes that the document tells: what only looks changes nothing.
+        KeyDistiller seen = maker.get();
+        shows(seen);
+        CHECK.due(state + ": behind a look", goesOn(seen), gone);
     }
 
     /** All that can be seen of it. */
@@ -347,7 +351,8 @@ public final class RefusedTest {
         for (int pass = 0; pass < 4 && x.pass() != KeyDistiller.NONE; pass++) {
             text.append('\n').append(Runs.order(x, pass));
         }
-        text.append('\n');
+        text.append('\n').append(Check.outcome(() -> x.tag(0, 77)));
+        text.append(' ').append(Check.outcome(() -> x.tag(1, 77))).append('\n');
         for (int i = 0; i < 12; i++) {
             int at = i;
             text.append(Check.outcome(() -> x.key(0, at))).append(Check.outcome(() -> x.key(1, at)));
