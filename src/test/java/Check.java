@@ -62,6 +62,27 @@ final class Check {
         }
     }
 
+    /** Part after part. One that throws where no answer was looked at is wrong, but the others are looked at still. */
+    void each(Runnable... parts) {
+        for (Runnable part : parts) {
+            sentence = "";
+            try {
+                part.run();
+            } catch (RuntimeException e) {
+                due("a part of this came to its end", e + " at " + whereInTests(e), "so");
+            }
+        }
+    }
+
+    private static String whereInTests(RuntimeException e) {
+        for (StackTraceElement at : e.getStackTrace()) {
+            if (at.getClassName().endsWith("Test")) {
+                return at.toString();
+            }
+        }
+        return "no test";
+    }
+
     boolean isWrong() {
         return wrong != 0;
     }

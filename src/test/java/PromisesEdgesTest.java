@@ -17,30 +17,14 @@ public final class PromisesEdgesTest {
     }
 
     public static void main(String[] args) {
-        promise1();
-        promise2Arguments();
-        promise2Bits();
-        promise2States();
-        promise3();
-        promise4();
-        promise5();
-        promise6();
-        promise7();
-        promise8Arguments();
-        promise8Row();
-        promise9();
-        promise10();
-        promise11();
-        promise12();
-        promise13();
-        promise14();
-        promise15();
-        promise16();
-        promise17();
-        promise18();
-        promise18Bits();
-        promise19();
-        promise19Latest();
+        CHECK.each(PromisesEdgesTest::promise1, PromisesEdgesTest::promise2Arguments, PromisesEdgesTest::promise2Bits,
+            PromisesEdgesTest::promise2States, PromisesEdgesTest::promise3, PromisesEdgesTest::promise4,
+            PromisesEdgesTest::promise5, PromisesEdgesTest::promise6, PromisesEdgesTest::promise7,
+            PromisesEdgesTest::promise8Arguments, PromisesEdgesTest::promise8Row, PromisesEdgesTest::promise9,
+            PromisesEdgesTest::promise10, PromisesEdgesTest::promise11, PromisesEdgesTest::promise12,
+            PromisesEdgesTest::promise13, PromisesEdgesTest::promise14, PromisesEdgesTest::promise15,
+            PromisesEdgesTest::promise16, PromisesEdgesTest::promise17, PromisesEdgesTest::promise18,
+            PromisesEdgesTest::promise18Bits, PromisesEdgesTest::promise19, PromisesEdgesTest::promise19Latest);
         CHECK.end();
     }
 
@@ -161,6 +145,10 @@ public final class PromisesEdgesTest {
             }
             return x.sift();
         });
+        KeyDistiller fewer = new KeyDistiller();
+        fewer.record(0, 0, 10, 0, 0, 0);
+        fewer.record(1, 2, 12, 1 << 7, 0, ~1);
+        CHECK.due("2 .. 9 by both, 2 not seen, 9 not alike", 6, fewer::sift);
         CHECK.about("3: IllegalStateException when it was called before.");
         for (KeyDistiller x : new KeyDistiller[] {Runs.zeros(0), Runs.zeros(1), Runs.zeros(128),
             Runs.started(8, 0, 0, 4, 1), Runs.talked(8, 0, 0, 4, 1)}) {
@@ -206,6 +194,9 @@ public final class PromisesEdgesTest {
         CHECK.due("in none", 0, () -> Runs.sifted(32, VALUES, VALUES).sample(1, 32));
         CHECK.due("in all", 32, () -> Runs.sifted(32, VALUES, ~VALUES).sample(1, 32));
         CHECK.due("in none of none", 0, () -> Runs.sifted(32, VALUES, ~VALUES).sample(1, 0));
+        KeyDistiller again = Runs.sifted(32, VALUES, ~VALUES);
+        CHECK.due("in all of the first ones", 10, () -> again.sample(1, 10));
+        CHECK.due("in all of the next ones alone", 5, () -> again.sample(2, 5));
         CHECK.due("in all 128", 128, () -> Runs.siftedLong(128, new int[4], new int[] {-1, -1, -1, -1}).sample(1, 128));
     }
 
@@ -220,6 +211,11 @@ public final class PromisesEdgesTest {
             CHECK.due("differed", before + n, () -> x.sampled(1));
         }
         CHECK.due("all 128 given up", 128, () -> x.sampled(0));
+        // The order of 8 begins with 5 and 1, which differ, and 2 3 7, which do not.
+        KeyDistiller few = Runs.sifted(8, 0b11010010, 0b11110000);
+        few.sample(5, 5);
+        CHECK.due("of 8 given up", 5, () -> few.sampled(0));
+        CHECK.due("of these differed", 2, () -> few.sampled(1));
         for (KeyDistiller none : new KeyDistiller[] {new KeyDistiller(), Runs.zeros(0), Runs.started(4, 0, 0, 4, 1)}) {
             CHECK.due("none given up", 0, () -> none.sampled(0));
             CHECK.due("none differed", 0, () -> none.sampled(1));
@@ -459,6 +455,12 @@ public final class PromisesEdgesTest {
         x.tick();
         x.letter(15, 0);
         CHECK.due("it is answered again", 2, x::disclosed);
+        KeyDistiller late = withLetters(2);
+        late.letter(0, 0);
+        late.letter(1, 0);
+        CHECK.due("the older question comes", 2, () -> late.letter(0, 0));
+        CHECK.due("the newest is under way", Runs.letter(late, 0), "0 2 0 4 8");
+        CHECK.due("and not answered by that", 1, late::disclosed);
     }
 
     private static void promise14() {
@@ -502,6 +504,9 @@ public final class PromisesEdgesTest {
         CHECK.throwsDue("new", STATE, () -> new KeyDistiller().bit(0, 0));
         CHECK.throwsDue("recorded", STATE, () -> Runs.recorded(8, 0, 0).bit(0, 0));
         CHECK.about("15: Bit i of a station's string as it is now.");
+        KeyDistiller unlike = Runs.sifted(8, 0b11010010, 0b11110000);
+        CHECK.due("of station 0", Runs.string(unlike, 0), "01001011");
+        CHECK.due("of station 1", Runs.string(unlike, 1), "00001111");
         KeyDistiller ends = Runs.allPulses(new int[] {1, 0, 0, 1 << 31});
         CHECK.due("the first", 1, () -> ends.bit(1, 0));
         CHECK.due("the second", 0, () -> ends.bit(1, 1));

@@ -14,33 +14,13 @@ public final class PromisesTest {
     }
 
     public static void main(String[] args) {
-        aNewObject();
-        record();
-        recordWrong();
-        sift();
-        length();
-        sample();
-        sampleWrong();
-        drawnAgain();
-        sampled();
-        start();
-        letterComes();
-        letterLostAndDoubled();
-        letterLate();
-        told();
-        tick();
-        doneAndPass();
-        disclosedAndAnswered();
-        questionsOfACascade();
-        shortLastBlockFirst();
-        halvesRoundedUp();
-        bit();
-        item();
-        tag();
-        shorten();
-        shortenWrong();
-        key();
-        keyOfAllPulses();
+        CHECK.each(PromisesTest::aNewObject, PromisesTest::record, PromisesTest::recordWrong, PromisesTest::sift,
+            PromisesTest::length, PromisesTest::sample, PromisesTest::sampleWrong, PromisesTest::drawnAgain,
+            PromisesTest::sampled, PromisesTest::start, PromisesTest::letterComes, PromisesTest::letterLostAndDoubled,
+            PromisesTest::letterLate, PromisesTest::told, PromisesTest::tick, PromisesTest::doneAndPass,
+            PromisesTest::disclosedAndAnswered, PromisesTest::questionsOfACascade, PromisesTest::shortLastBlockFirst,
+            PromisesTest::halvesRoundedUp, PromisesTest::bit, PromisesTest::item, PromisesTest::tag,
+            PromisesTest::shorten, PromisesTest::shortenWrong, PromisesTest::key, PromisesTest::keyOfAllPulses);
         CHECK.end();
     }
 

@@ -38,30 +38,31 @@ public final class RefusedTest {
     }
 
     public static void main(String[] args) {
-        CHECK.about("What throws changes nothing; the exceptions are tested in the order in which they are named.");
-        new RefusedTest("new", KeyDistiller::new).always().beforeSifting().beforeTheStart().notDone().noKey(0).look();
-        new RefusedTest("recorded", RefusedTest::recorded).always().recordedAlready().beforeSifting().beforeTheStart()
-            .notDone().noKey(0).look();
-        new RefusedTest("none kept", () -> Runs.zeros(0)).always().sifted(0).beforeTheStart().noSample(0).noStart(0)
-            .notDone().noKey(0).look();
-        new RefusedTest("three kept", () -> Runs.zeros(3)).always().sifted(3).beforeTheStart().noSample(3).noStart(3)
-            .notDone().noKey(0).look();
-        new RefusedTest("sifted", RefusedTest::sifted24).always().sifted(24).beforeTheStart().noSample(24).noStart(24)
-            .notDone().noKey(0).look();
-        new RefusedTest("sampled", RefusedTest::sampled20).always().sifted(20).beforeTheStart().noSample(20).noStart(20)
-            .notDone().noKey(0).look();
-        new RefusedTest("started", RefusedTest::started20).always().sifted(20).begun(20).lettersAre(1).notDone()
-            .noKey(0).look();
-        new RefusedTest("no letter", RefusedTest::withoutLetter).always().sifted(20).begun(20).lettersAre(0).notDone()
-            .noKey(0).look();
-        new RefusedTest("16 letters", RefusedTest::withAllLetters).always().sifted(20).begun(20).lettersAre(16)
-            .fullRow().notDone().noKey(0).look();
-        new RefusedTest("no bits left", RefusedTest::doneTooShort).always().sifted(20).begun(20).lettersAre(0).done()
-            .noBitsLeft().noKey(0).look();
-        new RefusedTest("done", RefusedTest::done24).always().sifted(24).begun(24).lettersAre(2).done().tagsDiffer()
-            .noKey(0).look();
-        new RefusedTest("shortened", RefusedTest::shortened24).always().sifted(24).begun(24).lettersAre(2).done()
-            .tagsDiffer().noKey(3).look();
+        CHECK.each(
+            new RefusedTest("new", KeyDistiller::new).always().beforeSifting().beforeTheStart().notDone()
+                .noKey(0)::look,
+            new RefusedTest("recorded", RefusedTest::recorded).always().recordedAlready().beforeSifting()
+                .beforeTheStart().notDone().noKey(0)::look,
+            new RefusedTest("none kept", () -> Runs.zeros(0)).always().sifted(0).beforeTheStart().noSample(0)
+                .noStart(0).notDone().noKey(0)::look,
+            new RefusedTest("three kept", () -> Runs.zeros(3)).always().sifted(3).beforeTheStart().noSample(3)
+                .noStart(3).notDone().noKey(0)::look,
+            new RefusedTest("sifted", RefusedTest::sifted24).always().sifted(24).beforeTheStart().noSample(24)
+                .noStart(24).notDone().noKey(0)::look,
+            new RefusedTest("sampled", RefusedTest::sampled20).always().sifted(20).beforeTheStart().noSample(20)
+                .noStart(20).notDone().noKey(0)::look,
+            new RefusedTest("started", RefusedTest::started20).always().sifted(20).begun(20).lettersAre(1).notDone()
+                .noKey(0)::look,
+            new RefusedTest("no letter", RefusedTest::withoutLetter).always().sifted(20).begun(20).lettersAre(0)
+                .notDone().noKey(0)::look,
+            new RefusedTest("16 letters", RefusedTest::withAllLetters).always().sifted(20).begun(20).lettersAre(16)
+                .fullRow().notDone().noKey(0)::look,
+            new RefusedTest("no bits left", RefusedTest::doneTooShort).always().sifted(20).begun(20).lettersAre(0)
+                .done().noBitsLeft().noKey(0)::look,
+            new RefusedTest("done", RefusedTest::done24).always().sifted(24).begun(24).lettersAre(2).done()
+                .tagsDiffer().noKey(0)::look,
+            new RefusedTest("shortened", RefusedTest::shortened24).always().sifted(24).begun(24).lettersAre(2).done()
+                .tagsDiffer().noKey(3)::look);
         CHECK.end();
     }
 
@@ -312,6 +313,7 @@ public final class RefusedTest {
     }
 
     private void look() {
+        CHECK.about("What throws changes nothing; the exceptions are tested in the order in which they are named.");
         String shown = shows(maker.get());
         String gone = goesOn(maker.get());
         for (Refusal refusal : refusals) {

@@ -21,23 +21,12 @@ public final class SentencesTest {
     }
 
     public static void main(String[] args) {
-        whatAStationRecords();
-        theSeedAtFirst();
-        whatIsDrawn();
-        theFirstPlaces();
-        itemsOfAShuffle();
-        theStringsAtTheStart();
-        theSizeAndTheSeed();
-        passes();
-        placesOfAPass();
-        parityAtAStation();
-        whatIsKnown();
-        justOneQuestion();
-        oddBlocks();
-        eachQuestionIsAnswered();
-        theTagAtFirst();
-        theConstant();
-        howManyAreRecorded();
+        CHECK.each(SentencesTest::whatAStationRecords, SentencesTest::theSeedAtFirst, SentencesTest::whatIsDrawn,
+            SentencesTest::theFirstPlaces, SentencesTest::itemsOfAShuffle, SentencesTest::theStringsAtTheStart,
+            SentencesTest::theSizeAndTheSeed, SentencesTest::passes, SentencesTest::placesOfAPass,
+            SentencesTest::parityAtAStation, SentencesTest::whatIsKnown, SentencesTest::justOneQuestion,
+            SentencesTest::oddBlocks, SentencesTest::eachQuestionIsAnswered, SentencesTest::theTagAtFirst,
+            SentencesTest::theConstant, SentencesTest::howManyAreRecorded);
         CHECK.end();
     }
 

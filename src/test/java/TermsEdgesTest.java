@@ -16,39 +16,17 @@ public final class TermsEdgesTest {
     }
 
     public static void main(String[] args) {
-        use();
-        pulses();
-        sifting();
-        theString();
-        theLength();
-        fewestDraws();
-        wrappingDraws();
-        whatIsLeftOfS();
-        drawnAgain();
-        drawnBits();
-        shuffles();
-        samples();
-        sampleBehindSample();
-        seedOfAPass();
-        blocks();
-        parityOfARange();
-        askingForBlocks();
-        nextPass();
-        fewestPlacesFirst();
-        leastPassFirst();
-        firstOneFirst();
-        rangeOfOnePlace();
-        halves();
-        allPlaces();
-        lastBlocksOfLaterPasses();
-        knownHalves();
-        lettersUnderWay();
-        rowMovesUp();
-        numbersOfQuestions();
-        anyOtherAnswer();
-        product();
-        tags();
-        keys();
+        CHECK.each(TermsEdgesTest::use, TermsEdgesTest::pulses, TermsEdgesTest::sifting, TermsEdgesTest::theString,
+            TermsEdgesTest::theLength, TermsEdgesTest::fewestDraws, TermsEdgesTest::wrappingDraws,
+            TermsEdgesTest::whatIsLeftOfS, TermsEdgesTest::drawnAgain, TermsEdgesTest::drawnBits,
+            TermsEdgesTest::shuffles, TermsEdgesTest::samples, TermsEdgesTest::sampleBehindSample,
+            TermsEdgesTest::seedOfAPass, TermsEdgesTest::blocks, TermsEdgesTest::parityOfARange,
+            TermsEdgesTest::askingForBlocks, TermsEdgesTest::nextPass, TermsEdgesTest::fewestPlacesFirst,
+            TermsEdgesTest::leastPassFirst, TermsEdgesTest::firstOneFirst, TermsEdgesTest::rangeOfOnePlace,
+            TermsEdgesTest::halves, TermsEdgesTest::allPlaces, TermsEdgesTest::lastBlocksOfLaterPasses,
+            TermsEdgesTest::knownHalves, TermsEdgesTest::lettersUnderWay, TermsEdgesTest::rowMovesUp,
+            TermsEdgesTest::numbersOfQuestions, TermsEdgesTest::anyOtherAnswer, TermsEdgesTest::product,
+            TermsEdgesTest::tags, TermsEdgesTest::keys);
         CHECK.end();
     }
 
