@@ -2,10 +2,7 @@ import java.util.Arrays;
 import java.util.HashSet;
 import java.util.Set;
 
-/**
- * The document's sentences that name no boundary case, by themselves and in their order; those that do name one are
- * looked at by the two tests of edges.
- */
+/** Each sentence of the document that the two tests of edges leave, as it names no boundary case, by itself. */
 public final class SentencesTest {
     private static final int VALUES = 0x5A3C96E1;
     /** Four differences, of which blocks of pass 0 with the seed 94 show none. */
